@@ -92,15 +92,6 @@ public final class FrameTest {
             shop.anchor(0, 'o', 1);
             Check.same("an anchor does", shop.holds(0, 0, 0), true);
         }
-        // 100 by 200: ice of 30 for each; 200 by 10, wind 100 presses with 2000.
-        for (int width : new int[] {200, 240}) {
-            Neonworks shop = frame(width, 20);
-            shop.anchor(0, 'c', width / 20);
-            shop.anchor(0, 'c', 1);
-            shop.anchor(0, 'b', 1);
-            boolean isHeld = width * 20 <= (width / 20 + 1) * 400 + 200 - (width > 200 ? 1 : 0);
-            Check.same("wind of 100", shop.holds(0, 100, 0), isHeld);
-        }
         for (int width : new int[] {190, 390}) {
             Neonworks shop = frame(width, 10);
             shop.anchor(0, 'c', 1);

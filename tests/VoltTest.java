@@ -153,9 +153,9 @@ public final class VoltTest {
             Check.same("load " + load, shop.loadOf(0), load == 1641 ? 1491 : 1640);
             Check.same("an empty row loses all", shop.loadOf(1), 0);
             shop.pass(1);
-            // The tubes leaked 3 each, so the row takes 850.
+            // The tubes leaked 3 each by then, so the row took 850, at least half of either load.
             Check.same("load " + load, shop.loadOf(0), load == 1641 ? 1491 : 1640);
-            Check.same("volts", shop.rowVolts(0), 860);
+            Check.same("volts, with 4 leaked into each", shop.rowVolts(0), 860);
         }
         Neonworks shop = new Neonworks();
         shop.transformer(15000);
