@@ -177,7 +177,7 @@ public final class CareTest {
         Neonworks shop = new Neonworks();
         Check.fails("share of nothing", ArithmeticException.class, shop::lightShare);
         Check.fails("mean of nothing", ArithmeticException.class, shop::meanBends);
-        String[] paths = {"e", "en", "ene", "enen", "enene", "e", "enenenene"};
+        String[] paths = {"ene", "en", "e", "enen", "enene", "e", "enenenene"};
         int bends = 0;
         int shining = 0;
         for (int i = 0; i < paths.length; i++) {

@@ -51,6 +51,7 @@ public final class FrameTest {
         Check.same("ice of 400", shop.holds(0, 0, 25), true);
         Check.same("ice of 416", shop.holds(0, 0, 26), false);
         Check.same("wind of 384 and ice of 16", shop.holds(0, 25, 1), true);
+        firstGlass();
         // Glass weighs by each tube: 9 units weigh nothing, 10 to 19 weigh 1.
         int[] units = {9, 9, 10, 19, 20};
         int[] weights = {0, 0, 1, 2, 4};
@@ -81,6 +82,22 @@ public final class FrameTest {
         Check.same("the most wind and ice, by just the 1 of a long side", large.holds(0, 100, 100), false);
         large.anchor(0, 'o', 1);
         Check.same("the most wind and ice", large.holds(0, 100, 100), true);
+    }
+
+    private static void firstGlass() {
+        Neonworks shop = frame(100, 60);
+        shop.anchor(0, 'c', 1);
+        Make.tube(shop, 8, "eeeeeeeeee", 0, 0, 0);
+        shop.hang(0, 0, 'A');
+        Check.same("ice of 400 and one tube", shop.holds(0, 0, 25), false);
+        // On a long side 80 bear 79: thirteen tubes of 6 and one of 1.
+        Neonworks longer = frame(201, 10);
+        longer.anchor(0, 'o', 1);
+        for (int i = 0; i < 15; i++) {
+            Make.tube(longer, 8, "e".repeat(i < 13 ? 60 : 10), 0, i, 0);
+            longer.hang(0, i, 'A');
+            Check.same("glass of " + (i + 1) + " tubes on a long side", longer.holds(0, 0, 0), i < 14);
+        }
     }
 
     private static void longSides() {
@@ -135,7 +152,35 @@ public final class FrameTest {
         Check.same("below the end of one", shop.isReached(6), false);
         Check.same("over one", shop.isReached(7), true);
         Check.fails("no tube", NONE, () -> shop.isReached(8));
+        reachingByPlace();
         Check.fails("no tube", NONE, () -> shop.isReached(-1));
+    }
+
+    /** A tube of five places at y 0, z 1, and one place of another one over or beside one of them. */
+    private static void reachingByPlace() {
+        for (int x = -1; x <= 5; x++) {
+            for (int y = -1; y <= 1; y++) {
+                for (String other : new String[] {"u", "d"}) {
+                    Neonworks shop = frame(100, 100);
+                    Make.tube(shop, 8, "eeee", 0, 0, 1);
+                    Make.tube(shop, 8, other, x, y, other.equals("u") ? 4 : 5);
+                    shop.hang(0, 1, 'A');
+                    shop.hang(0, 0, 'B');
+                    boolean isOver = y == 0 && x >= 0 && x <= 4;
+                    Check.same("reached below " + x + " " + y, shop.isReached(0), !isOver);
+                    Check.same("reached above " + x + " " + y, shop.isReached(1), true);
+                }
+            }
+        }
+        Neonworks beside = frame(100, 100);
+        Make.tube(beside, 8, "eeee", 0, 0, 1);
+        Make.tube(beside, 8, "eeee", 0, 1, 2);
+        Make.tube(beside, 8, "nn", 4, 1, 3);
+        for (int i = 0; i < 3; i++) {
+            beside.hang(0, i, 'A');
+        }
+        Check.same("beside each other", beside.isReached(0), true);
+        Check.same("the last place below the first one", beside.isReached(1), false);
     }
 
     private static void lights() {
@@ -169,7 +214,8 @@ public final class FrameTest {
     private static void permits() {
         int[] areas = {90000, 40000, 10000, 6000};
         int[] hours = {24, 24, 22, 21};
-        int[][] sizes = {{300, 300}, {200, 200}, {100, 100}, {100, 60}, {301, 300}, {200, 201}, {101, 100}, {61, 100}};
+        int[][] sizes = {{300, 300}, {200, 200}, {100, 100}, {100, 60}, {301, 300}, {200, 201}, {101, 100}, {61, 100},
+            {221, 181}, {137, 73}, {353, 17}};
         for (int street = 0; street < 4; street++) {
             for (int[] size : sizes) {
                 Neonworks shop = frame(size[0], size[1]);
@@ -191,12 +237,14 @@ public final class FrameTest {
     }
 
     /**
-     * A sign of some light, a multiple of 20: argon with white gives 690 for a unit, with ruby glass 60, and neon
-     * with blue glass 20; the units of 690 are even, so that the others can give the rest.
+     * A sign of some light, a multiple of 20, or 1 more: three units of neon with white give 1401, a unit of argon
+     * with white 690, of argon with ruby glass 60, and of neon with blue glass 20; the units of 690 are even, so that
+     * the others can give the rest.
      */
     private static Neonworks shining(int light) {
         Neonworks shop = frame(10, 10);
-        int left = hangUnits(shop, light / 690 / 2 * 2, 'a', 1, light, 690);
+        int left = light % 20 == 1 ? hangUnits(shop, 3, 'n', 1, light, 467) : light;
+        left = hangUnits(shop, left / 690 / 2 * 2, 'a', 1, left, 690);
         left = hangUnits(shop, left / 60, 'a', 4, left, 60);
         left = hangUnits(shop, left / 20, 'n', 5, left, 20);
         Check.same("what is left of a light of " + light, left, 0);
@@ -206,7 +254,8 @@ public final class FrameTest {
 
     private static int hangUnits(Neonworks shop, int many, char gas, int coat, int light, int each) {
         for (int left = many; left > 0; left -= 60) {
-            int tube = Make.tube(shop, 8, "e".repeat(Math.min(60, left)), 100 * coat, left % 500, 0);
+            int x = (gas == 'n' ? -100 : 100) * coat;
+            int tube = Make.tube(shop, 8, "e".repeat(Math.min(60, left)), x, left % 500, 0);
             shop.setCoat(tube, coat);
             Make.lightUp(shop, tube, 8, gas);
             shop.hang(0, tube, 'A');
@@ -219,6 +268,8 @@ public final class FrameTest {
         for (int street = 0; street < 4; street++) {
             Neonworks within = shining(limits[street]);
             Check.same("the limit in " + street, within.permit(0, street, 21, 100), street == 3 ? 'g' : 'y');
+            Neonworks justAbove = shining(limits[street] + 1);
+            Check.same("just above the limit in " + street, justAbove.permit(0, street, 24, 0), 'l');
             Neonworks above = shining(limits[street] + 20);
             Check.same("above the limit in " + street, above.permit(0, street, 24, 0), 'l');
         }

@@ -131,12 +131,13 @@ public final class FuzzTest {
         return (int) number;
     }
 
-    /** The answer, or the class of what was thrown. */
+    /** The answer, or the class of what was thrown; Error where the machine or the library threw it. */
     private static Object answer(Neonworks shop, Method method, Object[] with) throws IllegalAccessException {
         try {
             return method.invoke(shop, with);
         } catch (InvocationTargetException thrown) {
-            return thrown.getCause().getClass();
+            Throwable cause = thrown.getCause();
+            return Check.isThrownByClass(cause) ? cause.getClass() : Error.class;
         }
     }
 }

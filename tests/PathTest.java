@@ -140,6 +140,16 @@ public final class PathTest {
         copied("ue3n3w3s3e3n3w3s3e3", 'g');
         copied("uen3w3s3e3n3w3s3e3n3", 'p');
         copied("ue1n2w3s3e3n3w3s3e3n3", 'p');
+        // Opposite letters are a bend, but to no side.
+        copied("ns", 'g');
+        copied("ew", 'g');
+        copied("ud", 'g');
+        copied("ens3n", 'p');
+        copied("e3n3s3n3s3n3s3n3s3n3s3", 'p');
+        copied("e60", 'g');
+        Neonworks again = Make.typed("enu");
+        again.erase();
+        Check.same("erased letters do not matter", Make.typed(again, "en").copied(), 'd');
         Neonworks shop = Make.typed("en");
         Check.same("copied changes nothing", "" + shop.copied() + shop.copied() + shop.erase(), "dd2");
     }

@@ -321,10 +321,32 @@ public final class SignTest {
         Check.same("BA, a second late, is told at 120", other.wrongAt(0), 120);
         Check.fails("no sign", NONE, () -> shop.wrongAt(1));
         Check.fails("no sign", NONE, () -> shop.wrongAt(-1));
+        wrongsByRows();
+    }
+
+    private static void wrongsByRows() {
+        Neonworks shop = signOf("A");
+        shop.cam(1, 1);
+        shop.wire(0, 'd', 0, 0);
+        Check.same("a tube that is lit", shop.wrongAt(0), 0);
+        Make.bright(shop, 5, 'a');
+        shop.hang(0, 1, 'B');
+        shop.wire(1, 'd', 0, 0);
+        mean(shop, "A");
+        Check.same("a tube in no row", shop.wrongAt(0), -1);
+        Make.tube(shop, 8, "e", 0, 9, 0);
+        shop.load(0, 2);
+        mean(shop, "C", "D", "E", "F", "G");
+        Check.same("a row that does not light", shop.wrongAt(0), -1);
+        shop.transformer(1000);
+        shop.load(1, 1);
+        Check.same("B is none of six words", shop.wrongAt(0), 0);
+        shop.stick(0, '0');
+        Check.same("no letter is always meant", shop.wrongAt(0), -1);
     }
 
     private static void lateWrongs() {
-        // 8, 9 and 7 seconds are on together first at 503, or at the second 359, or at 360.
+        // The cams are all on together at the second 359 alone, or at 360 alone, which is not watched.
         for (int seen : new int[] {359, 360}) {
             Neonworks shop = signOf("AB");
             shop.cam(11, 1 << seen % 11);
@@ -424,7 +446,9 @@ public final class SignTest {
         Check.same("blue at 1 by day", shop.mixed(0, 1, true, 'b'), (3 * 6 + 76) / 4);
         shop.black(2, 0, 5);
         Check.same("blue at 1, all of white black", shop.mixed(0, 1, false, 'b'), 20);
-        shop.black(0, 0, 3);
+        shop.black(0, 0, 2);
+        Check.same("one unit", shop.mixed(0, 1, false, 'r'), 255);
+        shop.black(0, 2, 3);
         Check.same("all black", shop.mixed(0, 1, false, 'b'), 0);
         Check.fails("second -1", WRONG, () -> shop.mixed(0, -1, false, 'b'));
         Check.fails("part x", WRONG, () -> shop.mixed(0, 0, false, 'x'));

@@ -56,6 +56,12 @@ public final class TubeTest {
         Check.fails("below the wall", REFUSED, () -> shop.tube(8, 0, 0, 0));
         Check.same("on the wall", shop.tube(8, 0, 0, 2), 0);
         Check.same("its lowest place", shop.at(0, 3, 'z'), 0);
+        Make.typed(shop, "d");
+        Check.fails("the first letter below the wall", REFUSED, () -> shop.tube(8, 0, 0, 0));
+        shop.erase();
+        Make.typed(shop, "uedd");
+        Check.fails("up and below the wall", REFUSED, () -> shop.tube(8, 0, 0, 0));
+        Check.same("up and to the wall", shop.tube(8, 0, 0, 1), 1);
     }
 
     private static void atMostTwenty() {

@@ -138,6 +138,12 @@ public final class WeekTest {
         Check.fails("9 hours of another sign", REFUSED, () -> shop.hungOn(0));
         Check.fails("no sign", NONE, () -> shop.hungOn(2));
         Check.same("it can be bent all the same", shop.bentAt(5), 6);
+        Neonworks first = signs(2);
+        for (int i = 0; i < 5; i++) {
+            Make.tube(first, 8, "e".repeat(60), 0, i, 0);
+            first.hang(0, i, 'A');
+        }
+        Check.fails("9 hours of the first sign", REFUSED, () -> first.hungOn(1));
     }
 
     private static void likeHourByHour() {
