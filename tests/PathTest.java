@@ -128,6 +128,11 @@ public final class PathTest {
         copied("e3u3e", 'g');
         copied("e3u2e", 'g');
         copied("e3u3n3e", 'g');
+        // Bends out of the plane of x and y are to no side.
+        copied("enu", 'd');
+        copied("end", 'd');
+        copied("eun", 'g');
+        copied("edn", 'g');
         // Many bends.
         copied("e3n3e3n3e3n3e3n3e3n3e", 'd');
         copied("e3n3e3n3e3n3e3n3e3n", 'g');
