@@ -1,4 +1,7 @@
+import java.util.ArrayList;
+import java.util.List;
 import java.util.NoSuchElementException;
+import java.util.Random;
 
 /** Promises 29 to 41: signs, hanging, cams, relays, words, faults and mixed light. */
 public final class SignTest {
@@ -322,6 +325,53 @@ public final class SignTest {
         Check.fails("no sign", NONE, () -> shop.wrongAt(1));
         Check.fails("no sign", NONE, () -> shop.wrongAt(-1));
         wrongsByRows();
+        likeSecondBySecond();
+    }
+
+    /** Against each of the words in 0 to 359, with random cams, relays and faults. */
+    private static void likeSecondBySecond() {
+        Random random = new Random(5);
+        for (int round = 0; round < 300; round++) {
+            int tubes = 1 + random.nextInt(4);
+            Neonworks shop = signOf("ABAC".substring(0, tubes));
+            int cams = 1 + random.nextInt(4);
+            for (int i = 0; i < cams; i++) {
+                int period = 1 + random.nextInt(12);
+                shop.cam(period, random.nextInt(1 << period));
+                shop.stick(i, "-10l".charAt(random.nextInt(4)));
+            }
+            for (int i = 0; i < tubes; i++) {
+                shop.wire(i, "dnao".charAt(random.nextInt(4)), random.nextInt(cams), random.nextInt(cams));
+            }
+            String[] all = {"A", "B", "C", "AB", "ABA", "ABAC", "BA", "BAC", "AC", "BC", "AA", "ABC", "AAC"};
+            List<String> meant = new ArrayList<>(List.of(""));
+            for (int i = random.nextInt(7); i > 0; i--) {
+                meant.add(random.nextInt(3) == 0 ? all[random.nextInt(all.length)] : word(shop, 0, random.nextInt(360)));
+                if (meant.get(meant.size() - 1).isEmpty()) {
+                    meant.remove(meant.size() - 1);
+                }
+            }
+            mean(shop, meant.toArray(new String[0]));
+            Check.same("wrongAt of round " + round, shop.wrongAt(0), firstWrong(shop, meant));
+            int risks = 0;
+            for (int cam = 0; cam < cams; cam++) {
+                for (char how : new char[] {'1', '0', 'l'}) {
+                    char before = shop.stick(cam, how);
+                    risks += before != how && firstWrong(shop, meant) >= 0 ? 1 : 0;
+                    shop.stick(cam, before);
+                }
+            }
+            Check.same("risks of round " + round, shop.risks(0), risks);
+        }
+    }
+
+    private static int firstWrong(Neonworks shop, List<String> meant) {
+        for (int second = 0; second < 360; second++) {
+            if (!meant.contains(word(shop, 0, second))) {
+                return second;
+            }
+        }
+        return -1;
     }
 
     private static void wrongsByRows() {

@@ -428,11 +428,14 @@ public final class Neonworks {
     }
 
     public int wrongAt(int sign) throws IndexOutOfBoundsException {
-        return signAt(sign).firstWrong();
+        Sign found = signAt(sign);
+        found.beginWatch();
+        return found.firstWrong();
     }
 
     public int risks(int sign) throws IndexOutOfBoundsException {
         Sign found = signAt(sign);
+        found.beginWatch();
         int count = 0;
         for (int i = 0; i < cams.size(); i++) {
             Cam cam = cams.get(i);
@@ -1408,6 +1411,11 @@ public final class Neonworks {
             return relay == 'a' ? isFirst && isSecond : isFirst || isSecond;
         }
 
+        boolean beginsAnewAfter(int seconds) {
+            return (firstCam == null || firstCam.beginsAnewAfter(seconds))
+                    && (secondCam == null || secondCam.beginsAnewAfter(seconds));
+        }
+
         boolean flickers() {
             return firstCam != null && firstCam.period < 3 || secondCam != null && secondCam.period < 3;
         }
@@ -1513,6 +1521,10 @@ public final class Neonworks {
             int shown = how == LATE ? second - 1 : second;
             return (bits >> Math.floorMod(shown, period) & 1) == 1;
         }
+
+        boolean beginsAnewAfter(int seconds) {
+            return period < 1 || seconds % period == 0;
+        }
     }
 
     /** A sign, the tubes that hang there, and the words that are meant. */
@@ -1529,6 +1541,7 @@ public final class Neonworks {
         private int lastMeantLetters;
         int words;
         private final boolean[] isFed = new boolean[MOST_TUBES];
+        private int watched;
 
         Sign(int width, int height) {
             this.width = width;
@@ -1599,13 +1612,30 @@ public final class Neonworks {
             return word * LETTER_BASE + (letter - 'A' + 1);
         }
 
-        int firstWrong() {
-            // Rows do not change from second to second, so they are asked but once.
+        /** Finds what stays the same however cams stick: which tubes are fed, and when their cams begin anew. */
+        void beginWatch() {
             for (int i = 0; i < hung.size() && i < isFed.length; i++) {
                 Transformer power = hung.get(i).power;
                 isFed[i] = power != null && power.feeds();
             }
-            for (int second = 0; second < WATCHED_SECONDS; second++) {
+            watched = 1;
+            while (watched < WATCHED_SECONDS && !beginsAnewAfter(watched)) {
+                watched++;
+            }
+        }
+
+        private boolean beginsAnewAfter(int seconds) {
+            for (int i = 0; i < hung.size() && i < isFed.length; i++) {
+                if (isFed[i] && !hung.get(i).beginsAnewAfter(seconds)) {
+                    return false;
+                }
+            }
+            return true;
+        }
+
+        /** The first second in which what is told is not meant, or -1, as the watch was begun. */
+        int firstWrong() {
+            for (int second = 0; second < watched; second++) {
                 if (!tellsMeant(second)) {
                     return second;
                 }
