@@ -1151,15 +1151,17 @@ public final class Neonworks {
 
     /** Bends glass on trial, on rows of its own that are used again for each trial. */
     private static final class Bender {
+        private static final int DEAD = 1;
+
         private final Walk shape = new Walk();
         private final int[] lying = new int[MOST_BENDS + 1];
         private final int[] read = new int[MOST_BENDS];
-        // By the set of bends made, as bits: whether no order leads on from there.
-        private final boolean[] isDead = new boolean[1 << MOST_BENDS];
+        // By the set of bends made, as bits: DEAD if no order leads on from there.
+        private final int[] fates = new int[1 << MOST_BENDS];
 
         boolean hasOrder(Glass glass) {
             if (glass.search == Glass.UNSOUGHT) {
-                Arrays.fill(isDead, false);
+                Arrays.fill(fates, 0);
                 glass.search = leadsOn(this, glass, 0, 0) ? Glass.FOUND : Glass.NONE;
             }
             return glass.search == Glass.FOUND;
@@ -1173,14 +1175,14 @@ public final class Neonworks {
             }
             for (int bend = 0; bend < bends; bend++) {
                 int then = made | 1 << bend;
-                if (then == made || then >= bender.isDead.length || bender.isDead[then]) {
+                if (then == made || then >= bender.fates.length || bender.fates[then] == DEAD) {
                     continue;
                 }
                 glass.order[depth] = bend;
                 if (bender.isFree(glass, then) && leadsOn(bender, glass, then, depth + 1)) {
                     return true;
                 }
-                bender.isDead[then] = true;
+                bender.fates[then] = DEAD;
             }
             return false;
         }
@@ -1758,11 +1760,12 @@ public final class Neonworks {
     private static final class Tracer {
         // A path of 60 units covers a box of 31 by 31 places at most.
         private static final int MOST_CELLS = 961;
+        private static final int COME_TO = 1;
 
         private final int[] marksX = new int[MOST_MARKS];
         private final int[] marksY = new int[MOST_MARKS];
         int marks;
-        private final boolean[] isCell = new boolean[MOST_CELLS];
+        private final int[] cells = new int[MOST_CELLS];
         private int left;
         private int low;
         private int right;
@@ -1795,7 +1798,7 @@ public final class Neonworks {
         }
 
         private void layOut(Walk walk) {
-            Arrays.fill(isCell, false);
+            Arrays.fill(cells, 0);
             left = Walk.xOf(walk.placeAt(0));
             right = left;
             low = Walk.yOf(walk.placeAt(0));
@@ -1810,7 +1813,7 @@ public final class Neonworks {
             for (int i = 0; i <= walk.last; i++) {
                 int cell = cellOf(Walk.xOf(walk.placeAt(i)), Walk.yOf(walk.placeAt(i)));
                 if (cell >= 0) {
-                    isCell[cell] = true;
+                    cells[cell] = COME_TO;
                 }
             }
         }
@@ -1828,7 +1831,7 @@ public final class Neonworks {
             int count = 0;
             for (int i = 0; i < marks; i++) {
                 int cell = cellOf(marksX[i] - moveX, marksY[i] - moveY);
-                if (cell >= 0 && isCell[cell]) {
+                if (cell >= 0 && cells[cell] == COME_TO) {
                     count++;
                 }
             }
