@@ -9,14 +9,20 @@ final class Check {
 
     private static int made = 0;
     private static final List<String> WRONG = new ArrayList<>();
+    private static String about = "";
 
     private Check() {
+    }
+
+    /** What the checks from now on are about, told ahead of each that is wrong. */
+    static void about(String sentence) {
+        about = sentence.isEmpty() ? "" : sentence + ": ";
     }
 
     static void same(String what, Object got, Object due) {
         made++;
         if (!String.valueOf(due).equals(String.valueOf(got))) {
-            WRONG.add(what + " answered " + got + ", due is " + due);
+            wrong(what + " answered " + got + ", due is " + due);
         }
     }
 
@@ -24,10 +30,32 @@ final class Check {
     static void fails(String what, Class<? extends RuntimeException> due, Call call) {
         made++;
         try {
-            WRONG.add(what + " answered " + call.answer() + ", due is " + due.getSimpleName());
+            wrong(what + " answered " + call.answer() + ", due is " + due.getSimpleName());
         } catch (RuntimeException thrown) {
             if (thrown.getClass() != due || !isThrownByClass(thrown)) {
-                WRONG.add(what + " threw " + thrown + ", due is " + due.getSimpleName());
+                wrong(what + " threw " + thrown + ", due is " + due.getSimpleName());
+            }
+        }
+    }
+
+    /** The call throws nothing. */
+    static void runs(String what, Call call) {
+        made++;
+        try {
+            call.answer();
+        } catch (RuntimeException thrown) {
+            wrong(what + " threw " + thrown);
+        }
+    }
+
+    /** The call answers, or throws another exception than this one. */
+    static void failsNot(String what, Class<? extends RuntimeException> refused, Call call) {
+        made++;
+        try {
+            call.answer();
+        } catch (RuntimeException thrown) {
+            if (thrown.getClass() == refused || !isThrownByClass(thrown)) {
+                wrong(what + " threw " + thrown);
             }
         }
     }
@@ -37,6 +65,10 @@ final class Check {
         StackTraceElement[] calls = thrown.getStackTrace();
         boolean isDivision = String.valueOf(thrown.getMessage()).contains("by zero");
         return calls.length == 0 || calls[0].getClassName().startsWith("Neonworks") && !isDivision;
+    }
+
+    private static void wrong(String what) {
+        WRONG.add(about + what);
     }
 
     static void end(Class<?> test) {
