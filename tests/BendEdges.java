@@ -60,6 +60,9 @@ final class BendEdges extends Edges {
         says("An order can be made if, behind each bend, no place of the whole tube, its first run lying as it will, is "
                 + "met twice", () -> {
             same("met on the way", bent(SPIRAL).canBend(0, 12345), false);
+            // Without its first bend, u2 and e1 lie in a row, and the end comes to them.
+            same("the first run is met", bent("u2e1n1w2s2").canBend(0, 2341), false);
+            same("the first run is out of the way", bent("u2e1n1w2s2").canBend(0, 1234), true);
             same("met at no time", bent(SPIRAL).canBend(0, 12435), true);
             // Of e3 n3 w3 s2 the end, a unit of w, would lie on s without its bend: the first place is met then.
             same("the first place is met", bent("e3n3w3s2w1").canBend(0, 1234), false);
@@ -146,7 +149,9 @@ final class BendEdges extends Edges {
         says("`tube`: the number of the tube", () -> {
             Neonworks shop = bent(STAIR);
             Make.tube(shop, 8, Make.runs(SPIRAL), 50, 0, 0);
-            same("the third of each", shop.orderAt(0, 2) + " " + shop.orderAt(1, 2), "2 3");
+            Make.tube(shop, 8, STAIR, 100, 0, 0);
+            same("the third of each", shop.orderAt(0, 2) + " " + shop.orderAt(1, 2) + " " + shop.orderAt(2, 2), "2 3 2");
+            same("what one cannot, the next one can", order(shop, 1) + " " + order(shop, 2), "01324 01234567");
         });
         says("`index`: the index, from 0", () -> takes(0, 4, maker(SPIRAL), (shop, index) -> shop.orderAt(0, index)));
         says("Returns the number of the bend.", () -> {

@@ -78,8 +78,10 @@ final class CareEdges extends Edges {
         });
         says("A spare is bent ahead: it takes the place of the tube, with age 0, not pumped", () -> {
             Neonworks shop = agedBeside(500, "en");
+            shop.pass(3);
             shop.spare(0);
             same("its age, and that it is bent alone", shop.age(0) + " " + shop.stateOf(0), "0 b");
+            same("nothing leaked into it", shop.leaked(0), 0);
             same("it is on the sign", shop.bentAt(0), 1);
             same("it has all its air", shop.pump(0, 1), 50000);
             Check.fails("it is in the row", REFUSED, () -> shop.load(0, 0));

@@ -1,5 +1,6 @@
-import java.util.List;
 import java.util.ArrayList;
+import java.util.List;
+import java.util.NoSuchElementException;
 
 /** Counts and prints answers that are not due; shared by all tests of the project. */
 final class Check {
@@ -7,6 +8,9 @@ final class Check {
         Object answer();
     }
 
+    private static final List<Class<?>> THROWN = List.of(IllegalArgumentException.class, IllegalStateException.class,
+            IndexOutOfBoundsException.class, UnsupportedOperationException.class, NoSuchElementException.class,
+            ArithmeticException.class);
     private static int made = 0;
     private static final List<String> WRONG = new ArrayList<>();
     private static String about = "";
@@ -60,11 +64,13 @@ final class Check {
         }
     }
 
-    /** Whether a throw of the class itself threw it, not the library below it, nor a division. */
+    /** Whether a throw of the class itself threw it: not the library below it, nor the machine. */
     static boolean isThrownByClass(Throwable thrown) {
         StackTraceElement[] calls = thrown.getStackTrace();
         boolean isDivision = String.valueOf(thrown.getMessage()).contains("by zero");
-        return calls.length == 0 || calls[0].getClassName().startsWith("Neonworks") && !isDivision;
+        // What the machine throws often has no calls; what a statement throws always has.
+        boolean isAbove = calls.length > 0 && calls[0].getClassName().startsWith("Neonworks");
+        return THROWN.contains(thrown.getClass()) && isAbove && !isDivision;
     }
 
     private static void wrong(String what) {

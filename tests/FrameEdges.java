@@ -66,8 +66,10 @@ final class FrameEdges extends Edges {
             same("none", frame(100, 100).holds(0, 0, 0), true);
             same("0.99, cut", frame(10, 99).holds(0, 3, 0), true);
             same("1", frame(10, 100).holds(0, 4, 0), false);
-            same("160000, by anchors for 160080", pressed(399, 6).holds(0, 100, 0), true);
-            same("160000, by anchors for 160000, less 1", pressed(399, 5).holds(0, 100, 0), false);
+            same("just 40000", pressed(200, 200, 100, 0).holds(0, 100, 0), true);
+            same("40200", pressed(201, 200, 100, 2).holds(0, 100, 0), false);
+            same("160000, by anchors for 160080", pressed(400, 400, 399, 6).holds(0, 100, 0), true);
+            same("160000, by anchors for 160000, less 1", pressed(400, 400, 399, 5).holds(0, 100, 0), false);
         });
         says("ice of some thickness weighs the width plus the height, times it, / 10", () -> {
             same("just 80", anchored(60, 40, 0, 0, 1).holds(0, 0, 8), true);
@@ -79,13 +81,13 @@ final class FrameEdges extends Edges {
         });
     }
 
-    /** A sign of 400 by 400, on which a wind of 100 presses with 160000. */
-    private static Neonworks pressed(int concrete, int old) {
-        Neonworks shop = frame(400, 400);
+    /** A large sign and its many anchors. */
+    private static Neonworks pressed(int width, int height, int concrete, int old) {
+        Neonworks shop = frame(width, height);
         for (int left = concrete; left > 0; left -= 20) {
             shop.anchor(0, 'c', Math.min(left, 20));
         }
-        shop.anchor(0, 'o', old);
+        anchor(shop, 'o', old);
         return shop;
     }
 
@@ -107,6 +109,8 @@ final class FrameEdges extends Edges {
             same("50, 22 and 8 of 80, the other side", glazed(anchored(25, 200, 0, 0, 1), 60, 20).holds(0, 10, 1), true);
             same("50, 27 and 3 of 80 less 1", glazed(anchored(250, 20, 0, 0, 1), 30).holds(0, 10, 1), false);
             same("50, 27 and 2 of 80 less 1", glazed(anchored(250, 20, 0, 0, 1), 20).holds(0, 10, 1), true);
+            same("a side of 201", frame(201, 10).holds(0, 0, 0) + " " + frame(10, 201).holds(0, 0, 0), "false false");
+            same("sides of 200", frame(200, 200).holds(0, 0, 0), true);
             same("50, 27 and 3 of 80 less 1, the other side", glazed(anchored(20, 250, 0, 0, 1), 30).holds(0, 10, 1), false);
             // Less 1 in all, not for each anchor, nor for each side: 160, less 1.
             same("159 of 160 less 1", glazed(anchored(250, 250, 0, 0, 2), 60, 30).holds(0, 0, 3), true);
@@ -132,6 +136,10 @@ final class FrameEdges extends Edges {
             same("another y", isReachedBelow(1, 1, 2), true);
             same("below it", isReachedBelow(1, 0, 0), true);
             same("far over it", isReachedBelow(1, 0, 50), false);
+            same("its last place lies over it", isReachedBelow("ss", -300, 205), false);
+            same("its last place lies beside it", isReachedBelow("ss", -300, 206), true);
+            same("its middle place lies over it", isReachedBelow("en", -301, 203), false);
+            same("its middle place lies beside it", isReachedBelow("en", -301, 204), true);
             Neonworks shop = frame(10, 10);
             Make.tube(shop, 8, "eeuuww", 0, 0, 0);
             shop.hang(0, 0, 'A');
@@ -152,6 +160,16 @@ final class FrameEdges extends Edges {
         Make.tube(shop, 8, x <= 0 ? "w" : x >= 4 ? "e" : "n", x, y, z);
         shop.hang(0, 0, 'A');
         shop.hang(0, 1, 'B');
+        return shop.isReached(0);
+    }
+
+    /** Whether a tube of four places at x -300, y 200 to 203, is reached below one that begins at a place. */
+    private static boolean isReachedBelow(String letters, int x, int y) {
+        Neonworks shop = frame(10, 10);
+        Make.tube(shop, 8, "nnn", -300, 200, 1);
+        Make.tube(shop, 8, letters, x, y, 3);
+        shop.hang(0, 1, 'A');
+        shop.hang(0, 0, 'B');
         return shop.isReached(0);
     }
 

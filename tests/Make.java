@@ -171,6 +171,7 @@ final class Make {
             all.append(call.answer()).append('\n');
             return true;
         } catch (RuntimeException thrown) {
+            Check.same(what + " threw what the machine throws: " + thrown, Check.isThrownByClass(thrown), true);
             all.append(thrown.getClass().getSimpleName()).append('\n');
             return false;
         }

@@ -54,6 +54,15 @@ final class OldSignEdges extends Edges {
             same("its last place", trace(marked(withTube("eee", 0, 0), 3, 0)), "1: 0 0");
             same("just behind its last place", trace(marked(withTube("eee", 0, 0), 4, 0)), "1: 1 0");
             same("too far from each other", trace(marked(withTube("eee", 0, 0), 0, 0, 4, 0)), "1: 0 0");
+            // No two places of an angle are 1 to the east and 1 to the south of each other.
+            same("none of its places", trace(marked(withTube("eenn", -7, 9), -7, 9, -6, 8)), "1: 0 0");
+            same("between its ends", trace(marked(withTube("eenn", -7, 9), -7, 9, -6, 10)), "2: -1 0");
+            same("far to both sides", trace(marked(withTube("wwss", 400, -300), -500, 500, -498, 500, -500, 498)), "3: -898 800");
+            Neonworks shop = withTube("eeeeeeee", 0, 0);
+            Make.tube(shop, 8, "eenn", 0, 0, 0);
+            marked(shop, 0, 0, 1, -1);
+            same("where another tube went", shop.fits(0) + " " + shop.fits(1), "1 1");
+            same("the ends of the widest one", trace(marked(withTube(Make.runs("e30n30"), 0, 0), 0, 0, 30, 30)), "2: 0 0");
             same("a corner", trace(marked(withTube("een", 0, 0), 10, 10, 12, 11)), "2: 10 10");
         });
     }

@@ -127,6 +127,10 @@ final class PathEdges extends Edges {
             same("a 'u' at its end", copied("en2eu"), 'g');
             same("a 'd' at its end", copied("en2ed"), 'g');
             same("a 'u' at its beginning", copied("uen2e"), 'g');
+            Neonworks shop = Make.typed("ennuenn");
+            shop.erase();
+            same("a 'u' that was erased", Make.typed(shop, "enn").copied(), 'd');
+            same("a 'u' that is the 60th", copied("en2e56u"), 'g');
         });
         says("it has 10 bends or more", () -> {
             same("9", copied("e3n3e3n3e3n3e3n3e3n3"), 'g');
@@ -137,10 +141,21 @@ final class PathEdges extends Edges {
             same("to the left", copied("en3w3u3"), 'g');
             same("flat, to the left", copied("en3w"), 'd');
             same("flat, to the right", copied("es3w"), 'd');
+            same("flat, one bend to the left", copied("en"), 'd');
+            same("flat, one bend to the right", copied("es"), 'd');
             same("flat, to both", copied("en3e"), 'g');
+            same("flat, to both, the right ahead", copied("es3e"), 'g');
             same("flat, without a bend", copied("e9"), 'g');
             same("bends out of the plane alone, and a short run", copied("eu2e"), 'g');
             same("one in the plane, and a short run", copied("eu2en"), 'd');
+            for (char ahead : "ewns".toCharArray()) {
+                for (char out : "ud".toCharArray()) {
+                    for (char behind : "ewns".toCharArray()) {
+                        String path = ahead + "" + out + "2" + behind;
+                        same("out of the plane, and back to it, and a short run: " + path, copied(path), 'g');
+                    }
+                }
+            }
         });
         says("Of three or four of these it is a copy, of two doubtful", () -> {
             same("none", copied("e3u3n3"), 'g');

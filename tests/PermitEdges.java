@@ -18,12 +18,12 @@ final class PermitEdges extends Edges {
 
     /**
      * A small sign of some light, told in units of 690 (white argon), of 255 (neon in ruby glass), of 60 (argon in ruby
-     * glass) and of 20 (neon in blue glass).
+     * glass), of 20 (neon in blue glass) and of 467 (white neon).
      */
     private static Neonworks shining(int... units) {
         Neonworks shop = FrameEdges.frame(10, 10);
-        char[] gases = {'a', 'n', 'a', 'n'};
-        int[] coats = {1, 4, 4, 5};
+        char[] gases = {'a', 'n', 'a', 'n', 'n'};
+        int[] coats = {1, 4, 4, 5, 1};
         for (int i = 0; i < units.length; i++) {
             for (int left = units[i]; left > 0; left -= 60) {
                 int tube = Make.tube(shop, 8, "e".repeat(Math.min(left, 60)), 100 * i, left % 500, 0);
@@ -70,10 +70,10 @@ final class PermitEdges extends Edges {
         });
         says("The most area of a sign, width times height, is 90000, 40000, 10000, 6000", () -> {
             same("90000", permitOfArea(300, 300, 0), 'y');
-            same("90015", permitOfArea(255, 353, 0), 'a');
-            same("90300", permitOfArea(301, 300, 0), 'a');
+            // No sides have an area of 90001 to 90004.
+            same("90005", permitOfArea(235, 383, 0), 'a');
             same("40000", permitOfArea(200, 200, 1), 'y');
-            same("40002", permitOfArea(226, 177, 1), 'a');
+            same("40001", permitOfArea(181, 221, 1), 'a');
             same("10000", permitOfArea(100, 100, 2), 'y');
             same("10001", permitOfArea(137, 73, 2), 'a');
             same("6000", permitOfArea(100, 60, 3), 'y');
@@ -93,16 +93,16 @@ final class PermitEdges extends Edges {
     private static void termsOfLight() {
         of(0);
         says("the most light, 90000, 40000, 10000, 5000", () -> {
-            // 690 for each unit of white argon, 255 of ruby neon, 60 of ruby argon, 20 of blue neon.
-            same("90000", shining(130, 0, 5).permit(0, 0, 1, 0), 'y');
-            same("90005", shining(129, 1, 12, 1).permit(0, 0, 1, 0), 'l');
-            same("40000", shining(56, 0, 22, 2).permit(0, 1, 1, 0), 'y');
-            same("40005", shining(57, 1, 7).permit(0, 1, 1, 0), 'l');
-            same("10000", shining(14, 0, 5, 2).permit(0, 2, 1, 0), 'y');
-            same("10005", shining(13, 1, 13).permit(0, 2, 1, 0), 'l');
-            same("5000, of argon", shining(6, 0, 14, 1).permit(0, 3, 1, 0), 'g');
-            same("5005, of argon", shining(5, 1, 21, 2).permit(0, 3, 1, 0), 'l');
-            same("they are so much", shining(5, 1, 21, 2).lightOf(0) + " " + shining(129, 1, 12, 1).lightOf(0), "5005 90005");
+            int[][] just = {{130, 0, 5}, {56, 0, 22, 2}, {14, 0, 5, 2}, {6, 0, 14, 1}};
+            int[][] above = {{128, 0, 4, 2, 3}, {55, 2, 2, 1, 3}, {12, 0, 5, 1, 3}, {1, 1, 5, 1, 8}};
+            int[] most = {90000, 40000, 10000, 5000};
+            for (int street = 0; street < 4; street++) {
+                same("so much light", shining(just[street]).lightOf(0), most[street]);
+                // In an old street argon is not allowed, but that is looked at behind the light.
+                same("the most in " + street, shining(just[street]).permit(0, street, 1, 0), street == 3 ? 'g' : 'y');
+                same("so much light", shining(above[street]).lightOf(0), most[street] + 1);
+                same("1 more in " + street, shining(above[street]).permit(0, street, 1, 0), 'l');
+            }
         });
     }
 
@@ -147,6 +147,9 @@ final class PermitEdges extends Edges {
             // A light of 1020: 1008.7 by a shield of 1, 997.3 by one of 2.
             same("a shield of 1", shining(0, 4).isDark(0, 1, 100, 23), false);
             same("a shield of 2", shining(0, 4).isDark(0, 2, 100, 23), true);
+            // Of 1022 just 999.3 go up.
+            same("not cut to less", shining(0, 1, 5, 0, 1).lightOf(0) + " " + shining(0, 1, 5, 0, 1).isDark(0, 2, 100, 23),
+                    "1022 true");
         });
         says("in days 80 to 150 and 240 to 310 of the year, birds pass: from hour 22 on it must be less than 1000, else less "
                 + "than 20000", () -> {
@@ -160,6 +163,7 @@ final class PermitEdges extends Edges {
             same("980 with birds", shining(0, 0, 16, 1).isDark(0, 0, 80, 22), true);
             same("1000 with birds", shining(0, 0, 16, 2).isDark(0, 0, 80, 22), false);
             same("19980 without", shining(28, 0, 11).isDark(0, 0, 79, 22), true);
+            same("19999 without", shining(27, 1, 3, 0, 2).isDark(0, 0, 79, 22), true);
             same("20000 without", shining(28, 0, 11, 1).isDark(0, 0, 79, 22), false);
             same("19980 with birds, by day", shining(28, 0, 11).isDark(0, 0, 80, 21), true);
             same("20000 with birds, by day", shining(28, 0, 11, 1).isDark(0, 0, 80, 21), false);

@@ -110,6 +110,7 @@ final class TubeEdges extends Edges {
             refused("it meets itself", REFUSED, path("eennwwss"), shop -> shop.tube(8, 0, 0, 0));
             refused("below 0", REFUSED, path("ddd"), shop -> shop.tube(8, 0, 0, 2));
             refused("below 0 ahead of its end", REFUSED, path("deu"), shop -> shop.tube(8, 0, 0, 0));
+            refused("up, then below 0", REFUSED, path("uedd"), shop -> shop.tube(8, 0, 0, 0));
             refused("below 0 ahead of too many", REFUSED, () -> Make.typed(fullOfTubes(), "d"),
                     shop -> shop.tube(8, 0, 0, 0));
             refused("empty ahead of too many", REFUSED, TubeEdges::fullOfTubes, shop -> shop.tube(8, 0, 0, 0));

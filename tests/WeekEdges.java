@@ -94,6 +94,8 @@ final class WeekEdges extends Edges {
             for (int i = 0; i < paths.length; i++) {
                 same("a heat of " + 10 * (paths[i].length() - 1), bentAlone(paths[i]), due[i]);
             }
+            Neonworks hot = signs(1);
+            same("a heat of 95", hot.bentAt(hang(hot, 0, "sesssswwnnenwn")) + " " + hot.heat(0), "5 95");
             same("a heat of 45", bentAlone(Make.runs("e3n3w3s2w1")), 3);
             Neonworks shop = signs(1);
             same("five hours", shop.bentAt(hang(shop, 0, "enenenene")), 5);

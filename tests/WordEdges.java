@@ -69,6 +69,9 @@ final class WordEdges extends Edges {
             same("in the last second of all", together(359).wrongAt(0), 359);
             same("in the second behind it", together(360).wrongAt(0), -1);
             same("in the second ahead of it", together(358).wrongAt(0), 358);
+            same("none of six words", SignEdges.meaning(SignEdges.signOf("A", 1, 1), "B", "C", "D", "E", "F", "G").wrongAt(0), 0);
+            same("the last of six words", SignEdges.meaning(SignEdges.signOf("A", 1, 1), "B", "C", "D", "E", "F", "A").wrongAt(0),
+                    -1);
             same("part of a meant word", SignEdges.meaning(SignEdges.signOf("A", 1, 1), "AB", "BA").wrongAt(0), 0);
             same("a meant word, and more", SignEdges.meaning(SignEdges.signOf("AB", 1, 1, 1, 1), "A", "B", "BA").wrongAt(0), 0);
         });
