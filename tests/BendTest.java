@@ -15,6 +15,7 @@ public final class BendTest {
         wrongOrders();
         wrongIndexes();
         likeTurnedFrames();
+        narrowPaths();
         Check.end(BendTest.class);
     }
 
@@ -99,28 +100,45 @@ public final class BendTest {
         int made = 0;
         while (made < 400) {
             String path = randomPath(random);
-            Neonworks shop = Make.typed(path);
-            if (shop.judge(8) != 'g') {
-                continue;
-            }
-            made++;
-            shop.tube(8, random.nextInt(1001) - 500, random.nextInt(1001) - 500, 50);
-            List<int[]> orders = new ArrayList<>();
-            permute(new int[shop.bends(0)], 0, 0, orders);
-            Frames frames = new Frames(path);
-            String first = null;
-            for (int i = 0; i < orders.size() && first == null; i++) {
-                first = frames.canBeMade(orders.get(i)) ? digits(orders.get(i)) : null;
-            }
-            Check.same("order of " + path, orderOf(shop, 0), first);
-            odd += orders.get(0).length > 0 && !digits(orders.get(0)).equals(first) ? 1 : 0;
-            for (int i = 0; i < 5; i++) {
-                int[] order = orders.get(random.nextInt(orders.size()));
-                long told = order.length == 0 ? 0 : Long.parseLong(digits(order));
-                Check.same("canBend " + path + " " + told, shop.canBend(0, told), frames.canBeMade(order));
+            if (Make.typed(path).judge(8) == 'g') {
+                made++;
+                odd += isOddByFrames(path, random) ? 1 : 0;
             }
         }
         Check.same("some orders are not the plain ones", odd > 20, true);
+    }
+
+    /** Paths of eight bends of which five or six, each made last, would let the glass meet itself; no path has seven. */
+    private static void narrowPaths() {
+        Random random = new Random(8);
+        String[] paths = {"e5n1e3n1w5s1w4s2e11", "e1n2e1s2e4s1w7n4e10", "e3n2e1n1w5n1e8s5w10", "e6n5w9s4e1n3e1s5e12",
+            "e4n3w12n2e6s1e9s5w17", "e14n9w11s7e7n4e2n2e1", "e13n5w9s4e6n3w4s2u2", "e1n1u4n2d5s4u7n5d11",
+            "e13n4w7n1w4s2e9s2w9", "e10n3w5n1w2s2e2s1e4", "e4n5e1n2e1s8w7n10u1", "e1n8e2s4e1s2w2n5u1"};
+        int odd = 0;
+        for (String path : paths) {
+            odd += isOddByFrames(Make.runs(path), random) ? 1 : 0;
+        }
+        Check.same("paths of which bends by rising numbers cannot be made", odd, 8);
+    }
+
+    /** Looks at the order of a path and at some others; whether it is not that by rising numbers. */
+    private static boolean isOddByFrames(String path, Random random) {
+        Neonworks shop = Make.typed(path);
+        shop.tube(8, random.nextInt(1001) - 500, random.nextInt(1001) - 500, 50);
+        List<int[]> orders = new ArrayList<>();
+        permute(new int[shop.bends(0)], 0, 0, orders);
+        Frames frames = new Frames(path);
+        String first = null;
+        for (int i = 0; i < orders.size() && first == null; i++) {
+            first = frames.canBeMade(orders.get(i)) ? digits(orders.get(i)) : null;
+        }
+        Check.same("order of " + path, orderOf(shop, 0), first);
+        for (int i = 0; i < 5; i++) {
+            int[] order = orders.get(random.nextInt(orders.size()));
+            long told = order.length == 0 ? 0 : Long.parseLong(digits(order));
+            Check.same("canBend " + path + " " + told, shop.canBend(0, told), frames.canBeMade(order));
+        }
+        return orders.get(0).length > 0 && !digits(orders.get(0)).equals(first);
     }
 
     private static String randomPath(Random random) {
